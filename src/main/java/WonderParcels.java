@@ -666,12 +666,13 @@ public final class WonderParcels {
                 kind = THE_END;
                 return;
             }
-            after = begin + 1;
             int c = bytes[begin];
-            if (isLetter(c) || isDigit(c)) {
+            after = begin;
+            if (c >= 'a' && c <= 'z' || c >= '0' && c <= '9') {
                 readRun();
             } else {
                 kind = isSign(c) ? c : NO_TOKEN;
+                after++;
             }
         }
 
@@ -715,56 +716,45 @@ public final class WonderParcels {
         /** Letters and digits as far as they go, also over the place where the text must stop. */
         private void readRun() {
             int letters = 0;
+            int digits = 0;
             long word = 0;
             int value = 0;
-            after = begin;
-            while (after < length && (isLetter(bytes[after]) || isDigit(bytes[after]))) {
+            boolean runs = true;
+            while (runs && after < length) {
                 int c = bytes[after];
-                if (isLetter(c)) {
+                if (c >= 'a' && c <= 'z') {
                     letters++;
+                    word = word << 8 | c;
+                    after++;
+                } else if (c >= '0' && c <= '9') {
+                    digits++;
+                    value = value * 10 + (c - '0');
+                    after++;
+                } else {
+                    runs = false;
                 }
-                word = word << 8 | c;
-                value = value * 10 + (c - '0');
-                after++;
             }
-            int size = after - begin;
             kind = NO_TOKEN;
-            if (letters == 0 && size <= LONGEST_NUMBER) {
+            if (letters == 0 && digits <= LONGEST_NUMBER) {
                 kind = NUMBER;
                 number = value;
-            } else if (letters == size && size <= LONGEST_WORD) {
-                kind = kindOfWord(word);
+            } else if (digits == 0 && letters <= LONGEST_WORD) {
+                kind = NAME;
                 name = word;
-            }
-        }
-
-        private int kindOfWord(long word) {
-            for (int k = 0; k < words.length; k++) {
-                if (words[k] == word) {
-                    return IDEA + k;
+                for (int k = 0; k < words.length; k++) {
+                    if (words[k] == word) {
+                        kind = IDEA + k;
+                    }
                 }
             }
-            return NAME;
         }
 
         private static boolean isBlank(int c) {
             return c == 32 || c == 10;
         }
 
-        private static boolean isLetter(int c) {
-            return c >= 'a' && c <= 'z';
-        }
-
-        private static boolean isDigit(int c) {
-            return c >= '0' && c <= '9';
-        }
-
         private static boolean isSign(int c) {
-            return c == LINE_ENDS || isComparison(c) || c == BRACKET || c == BRACKET_ENDS;
-        }
-
-        static boolean isComparison(int c) {
-            return c == LESS || c == LIKE || c == MORE;
+            return c == LINE_ENDS || c == LESS || c == LIKE || c == MORE || c == BRACKET || c == BRACKET_ENDS;
         }
     }
 
@@ -1593,21 +1583,24 @@ public final class WonderParcels {
             }
         }
 
+        /** An 'or' waits for all that 'and' joins on its right; an 'and' for one alone. */
         private void readCond(Tape tape, Post post, int depth) {
-            readAll(tape, post, depth);
-            for (int n = 0; n < MOST_ONES && tape.sees(OR); n++) {
-                tape.pass();
-                readAll(tape, post, depth);
-                addStep(OR, 0, 0);
-            }
-        }
-
-        private void readAll(Tape tape, Post post, int depth) {
+            boolean orWaits = false;
             readOne(tape, post, depth);
-            for (int n = 0; n < MOST_ONES && tape.sees(AND); n++) {
+            for (int n = 0; n < MOST_ONES && (tape.sees(OR) || tape.sees(AND)); n++) {
+                boolean or = tape.sees(OR);
                 tape.pass();
+                if (or && orWaits) {
+                    addStep(OR, 0, 0);
+                }
+                orWaits |= or;
                 readOne(tape, post, depth);
-                addStep(AND, 0, 0);
+                if (!or) {
+                    addStep(AND, 0, 0);
+                }
+            }
+            if (orWaits) {
+                addStep(OR, 0, 0);
             }
         }
 
@@ -1641,7 +1634,7 @@ public final class WonderParcels {
                 addStep(kind, 0, tape.takeName(post, ROOMS));
             } else if (kind >= SIZE) {
                 int how = tape.kind;
-                if (!Tape.isComparison(how)) {
+                if (how != LESS && how != LIKE && how != MORE) {
                     tape.refuse(CANNOT_COME);
                 }
                 tape.pass();

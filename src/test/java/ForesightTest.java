@@ -107,6 +107,10 @@ public final class ForesightTest {
     }
 
     private static void sittersAndOthers() {
+        // Fewest goes ahead of least as bits.
+        WonderParcels w = made("idea a 6;room r;parcel q r;person k a 3;person l a 3;person m a 6;");
+        Check.is("m alone", w.sitters(0, 0, 1), 1);
+        Check.is("who", w.sitting(), 4);
         // He who sits by the other leaks; what is here now sits no more.
         WonderParcels x = made("idea a 6;idea b 10;room r;parcel q r;parcel s r;"
                 + "person k a 9;person m b 9;sits m s;sits k q;leak 5;");

@@ -139,6 +139,7 @@ public final class PostTest {
         fault(HEAD + "has a q 5;", 53, 3);
         fault(HEAD + "has q q 5;", 55, 3);
         fault(HEAD + "has q a 5;has q a", 65, 3);
+        fault(HEAD + "has q a 1;has q a", 65, 3);
         fault(HEAD + "quarrel a a;", 59, 3);
         fault(HEAD + "quarrel a b;quarrel a b", 71, 3);
         fault(HEAD + "quarrel a b;quarrel b a", 71, 3);
