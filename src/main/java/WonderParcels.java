@@ -1374,11 +1374,10 @@ public final class WonderParcels {
                 idea[q] = world.isNow(q);
             }
             int rooms = 0;
-            while (rooms < parcels && !canPlace(world.post, 0, rooms)) {
+            // In as many rooms as parcels each has its own, so the last try finds a way.
+            while (!canPlace(world.post, 0, rooms) && rooms < parcels) {
                 rooms++;
             }
-            // In as many rooms as parcels each has its own, so the last try finds a way.
-            canPlace(world.post, 0, rooms);
             return rooms;
         }
 
@@ -1456,23 +1455,23 @@ public final class WonderParcels {
             lines = 0;
             // A line more than there may be is read as far as its fault.
             for (int line = 0; line <= MOST_LINES && tape.goesOn(); line++) {
-                int first = tape.kind;
-                int p = first == NAME ? tape.nameAhead(post, PERSONS) : NONE;
-                if (!beginsLine(tape, first)) {
+                int word = tape.kind;
+                int p = word == NAME ? tape.nameAhead(post, PERSONS) : NONE;
+                if (!beginsLine(tape, word)) {
                     return;
                 }
                 if (p != NONE) {
                     readVerb(tape, post, p);
                 } else {
-                    readOther(tape, post, first);
+                    readOther(tape, post, word);
                 }
                 tape.passOnly(LINE_ENDS);
             }
         }
 
         /** Passes a line's first word, if such a line may come; a name was looked at already. */
-        private boolean beginsLine(Tape tape, int first) {
-            if (first != NAME && (first < OPEN || first > DAY)) {
+        private boolean beginsLine(Tape tape, int word) {
+            if (word != NAME && (word < OPEN || word > DAY)) {
                 tape.refuse(CANNOT_COME);
             } else if (lines >= MOST_LINES) {
                 tape.refuse(ONE_TOO_MANY);
