@@ -46,6 +46,10 @@ public final class LanguageTest {
 
     public static void main(String[] args) throws Exception {
         JavaCompiler compiler = ToolProvider.getSystemJavaCompiler();
+        if (compiler == null) {
+            System.out.println("LanguageTest: this java has no compiler inside, nothing was looked at");
+            return;
+        }
         try (StandardJavaFileManager files = compiler.getStandardFileManager(null, null, null)) {
             JavacTask task = (JavacTask) compiler.getTask(null, files, null, Arrays.asList("-proc:none"), null,
                     files.getJavaFileObjects(new File("src/main/java/WonderParcels.java")));
