@@ -35,7 +35,7 @@ import javax.tools.JavaCompiler;
 import javax.tools.StandardJavaFileManager;
 import javax.tools.ToolProvider;
 
-/** The rules of LANGUAGE.md that can be read off the class's own text: 2, 4, 5, 6, 10, 11, of 7 the divisors. */
+/** The rules of LANGUAGE.md that can be read off the class's own text: 2, 4, 5, 6, 10, 11, of 1 the names, of 7 the divisors. */
 public final class LanguageTest {
     private static final Set<String> LIBRARY = new HashSet<>(Arrays.asList(
             "String.length", "String.charAt", "String.isEmpty", "String.equals", "String.indexOf", "String.substring", "String.toCharArray",
@@ -121,7 +121,23 @@ public final class LanguageTest {
             long to = unit.getLineMap().getLineNumber(trees.getSourcePositions().getEndPosition(unit, tree));
             Check.is("rule 11, some sixty lines: " + tree.getName(), to - from < 60, true);
             Check.is("rule 11, seven parameters: " + tree.getName(), tree.getParameters().size() <= 7, true);
+            boolean shown = method.getModifiers().contains(Modifier.PUBLIC);
+            Check.is("rule 1, a name of the face: " + tree.getName(), !shown && isOfFace(tree.getName().toString()), false);
             return super.visitMethod(tree, none);
+        }
+
+        private static boolean isOfFace(String name) {
+            return Arrays.stream(WonderParcels.class.getMethods())
+                    .anyMatch(m -> m.getDeclaringClass() == WonderParcels.class && m.getName().equals(name));
+        }
+
+        @Override
+        public Void visitLiteral(LiteralTree tree, Void none) {
+            if (tree.getValue() instanceof String) {
+                boolean fits = ((String) tree.getValue()).chars().allMatch(c -> c >= 1 && c <= 127);
+                Check.is("rule 4, signs 1 to 127: " + tree, fits, true);
+            }
+            return super.visitLiteral(tree, none);
         }
 
         @Override
