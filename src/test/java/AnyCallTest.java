@@ -85,8 +85,8 @@ public final class AnyCallTest {
     private Object[] given(Method method) {
         Object[] given = new Object[method.getParameterCount()];
         for (int k = 0; k < given.length; k++) {
-            int odd = chance.nextInt(3);
-            given[k] = odd == 0 ? ODD[chance.nextInt(ODD.length)] : odd == 1 ? chance.nextInt(3) : chance.nextInt(9);
+            int kind = chance.nextInt(6);
+            given[k] = kind == 0 ? ODD[chance.nextInt(ODD.length)] : kind == 1 ? chance.nextInt(9) : chance.nextInt(3);
         }
         return given;
     }
