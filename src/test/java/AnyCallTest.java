@@ -9,8 +9,8 @@ import java.util.NoSuchElementException;
 import java.util.Random;
 
 /**
- * Every call with any arguments, in any state, behind any tape: nothing is thrown but what the document says,
- * and a call changes nothing but what the document says (what it refuses changes nothing).
+ * Calls of all kinds with arguments, states and tapes by chance (always the same ones): nothing is thrown but what the
+ * document says, and a call changes nothing but what the document says (what it refuses changes nothing).
  */
 public final class AnyCallTest {
     private static final int[] ODD = {Integer.MIN_VALUE, Integer.MIN_VALUE + 1, -1001, -1000, -256, -100, -3, -2, -1,
